@@ -19,11 +19,14 @@ final class Check {
         }
     }
 
-    static void refuses(String what, String want, Call call) {
+    /** The call throws just this (IOB, IAE or ISE), and the bench stays as it was. */
+    static void refused(GearTrains bench, String want, String what, Call call) {
+        String before = look(bench);
         same(what, outcome(call), want);
+        same("the bench after " + what, look(bench), before);
     }
 
-    /** The answer as a text, or the short name of what is thrown. */
+    /** The answer as a text, or the short name of what the program throws. */
     static String outcome(Call call) {
         try {
             return String.valueOf(call.make());
@@ -32,10 +35,13 @@ final class Check {
         }
     }
 
-    // A list throws the same IndexOutOfBoundsException, but from inside the library.
-    private static boolean isThrownByProgram(RuntimeException e) {
-        StackTraceElement[] trace = e.getStackTrace();
-        return trace.length > 0 && trace[0].getClassName().equals("GearTrains");
+    /** The same for a call of something else than the program. */
+    static String outcomeOfAny(Call call) {
+        try {
+            return String.valueOf(call.make());
+        } catch (RuntimeException e) {
+            return shortName(e.getClass());
+        }
     }
 
     static String shortName(Class<?> type) {
@@ -57,5 +63,18 @@ final class Check {
         if (wrong != 0 || done == 0) {
             System.exit(1);
         }
+    }
+
+    // A list throws the same IndexOutOfBoundsException, but from inside the library.
+    private static boolean isThrownByProgram(RuntimeException e) {
+        StackTraceElement[] trace = e.getStackTrace();
+        return trace.length > 0 && trace[0].getClassName().equals("GearTrains");
+    }
+
+    // Few calls: an object is good for 512 of them.
+    private static String look(GearTrains bench) {
+        int meshes = bench.count(2);
+        return bench.digest() + " " + bench.collisions() + " " + bench.free() + " "
+                + (meshes == 0 ? -1 : bench.distance(meshes - 1));
     }
 }
