@@ -590,7 +590,10 @@ public final class GearTrains {
         }
     }
 
-    /** An equation: the speeds of the shafts, each times its weight (never 0), add up to 0. */
+    /**
+     * An equation: the speeds of two or three shafts, each times its weight, add up to 0. There are
+     * as many weights as shafts, and none is 0.
+     */
     private static final class Tie {
         final Shaft[] shafts;
         final int[] weights;

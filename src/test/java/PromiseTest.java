@@ -491,6 +491,27 @@ public final class PromiseTest {
         Check.same("mesh 1 too", bench.broken(false), 2);
         bench.drive(0, 197);
         Check.same("not aside any more", speedOf(bench, 2), "38407/191");
+        firstOnesLeftAside();
+    }
+
+    private static void firstOnesLeftAside() {
+        GearTrains bench = withShafts(4);
+        pair(bench, 1, 191, 0, 193, 0);
+        bench.drive(2, 997);
+        pair(bench, 2, 199, 0, 197, 1);
+        Check.same("mesh 0 is left aside, the first gear's shaft free", bench.isTold(1), false);
+        Check.same("so it is not broken", bench.broken(false), 0);
+        bench.drive(2, 197);
+        Check.same("mesh 0 is not aside any more", speedOf(bench, 1), "38407/191");
+        bench.drive(2, 997);
+        bench.addPlanets(1, 3, 0, 97, 89);
+        bench.hold(3, true);
+        Check.same("set 0 is left aside, the sun's shaft free", bench.isTold(1), false);
+        Check.same("so it is not broken", bench.broken(true), 0);
+        bench.unmesh();
+        bench.unmesh();
+        bench.drive(0, 97);
+        Check.same("set 0 is not aside any more", speedOf(bench, 1), "372/1");
     }
 
     private static void speedAtTheLimit() {
@@ -519,7 +540,23 @@ public final class PromiseTest {
         Check.same("below 0 too", over.isTold(3), false);
         over.drive(0, 984);
         Check.same("994250", speedOf(over, 3), "-994250/1");
+        overTheLimitByOne();
         underTheLimit();
+    }
+
+    private static void overTheLimitByOne() {
+        GearTrains bench = withShafts(5);
+        pair(bench, 0, 178, 1, 8, 0);
+        pair(bench, 1, 166, 2, 8, 1);
+        pair(bench, 2, 40, 3, 53, 2);
+        bench.addPlanets(4, 0, 3, 8, 100);
+        bench.drive(0, -106);
+        Check.same("the carrier", speedOf(bench, 3), "36935/1");
+        Check.same("27 * 36935 + 26 * 106 = 1000001 is too great", bench.isTold(4), false);
+        bench.drive(0, 106);
+        Check.same("below 0 too", bench.isTold(4), false);
+        bench.drive(0, 0);
+        Check.same("0 is not", speedOf(bench, 4), "0/1");
     }
 
     private static void underTheLimit() {
