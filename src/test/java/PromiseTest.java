@@ -1,7 +1,7 @@
 /** Each promise by hand-made cases: ordinary ones, the edges of the document, wrong calls. */
 public final class PromiseTest {
-    private static final int MIN = Integer.MIN_VALUE;
-    private static final int MAX = Integer.MAX_VALUE;
+    private static final int MIN = Benches.MIN;
+    private static final int MAX = Benches.MAX;
 
     public static void main(String[] args) {
         newObject();
@@ -39,44 +39,6 @@ public final class PromiseTest {
         Check.end();
     }
 
-    // ---- benches to look at
-
-    private static GearTrains withShafts(int number) {
-        GearTrains bench = new GearTrains();
-        for (int k = 0; k < number; k++) {
-            bench.addShaft(100 * k, 0);
-        }
-        return bench;
-    }
-
-    /** Shafts in a row, two gears on each: mesh k ties shaft k to shaft k + 1, 10 to 20 teeth. */
-    private static GearTrains chain(int shafts) {
-        GearTrains bench = withShafts(shafts);
-        for (int k = 0; k + 1 < shafts; k++) {
-            pair(bench, k, 10, k + 1, 20, k % 6);
-        }
-        return bench;
-    }
-
-    /** Two new outer gears of module 1, meshed. */
-    private static int pair(GearTrains bench, int a, int teeth, int b, int others, int layer) {
-        int first = bench.addGear(a, teeth, 1, layer, false);
-        int second = bench.addGear(b, others, 1, layer, false);
-        return bench.mesh(first, second);
-    }
-
-    private static String speedOf(GearTrains bench, int shaft) {
-        return bench.speed(shaft, false) + "/" + bench.speed(shaft, true);
-    }
-
-    private static long mix(long... numbers) {
-        long d = 263;
-        for (long x : numbers) {
-            d = d * 31 + x;
-        }
-        return d;
-    }
-
     // ---- promises 1 to 9: shafts and gears
 
     private static void newObject() {
@@ -89,7 +51,7 @@ public final class PromiseTest {
         Check.same("new: broken sets", bench.broken(true), 0);
         Check.same("new: misfits", bench.misfits(), 0);
         Check.same("new: collisions", bench.collisions(), 0);
-        Check.same("new: digest", bench.digest(), mix(0, -1, 0, 0, 0, 0, 0, 0));
+        Check.same("new: digest", bench.digest(), Benches.mix(0, -1, 0, 0, 0, 0, 0, 0));
         bench.addShaft(1, 2);
         Check.same("new: there is no driver", bench.drive(0, 5), -1);
         Check.same("new: another one is free of it", new GearTrains().count(0), 0);
@@ -100,7 +62,7 @@ public final class PromiseTest {
         Check.same("first shaft", bench.addShaft(-1000, 1000), 0);
         Check.same("second shaft", bench.addShaft(1000, -1000), 1);
         Check.same("same place again", bench.addShaft(1000, -1000), 2);
-        Check.same("coordinates are kept", bench.digest(), mix(3, -1000, 1000, 0, -1,
+        Check.same("coordinates are kept", bench.digest(), Benches.mix(3, -1000, 1000, 0, -1,
                 1000, -1000, 0, -1, 1000, -1000, 0, -1, -1, 0, 0, 0, 0, 0, 0));
         int[] wrong = {-1001, 1001, MIN, MAX};
         for (int far : wrong) {
@@ -116,12 +78,12 @@ public final class PromiseTest {
     }
 
     private static void move() {
-        GearTrains bench = withShafts(2);
+        GearTrains bench = Benches.withShafts(2);
         Check.same("move by 3, 4", bench.move(0, -3, 4), 25);
         Check.same("move to the same place", bench.move(0, -3, 4), 0);
         Check.same("move to the corner", bench.move(0, -1000, -1000), 997 * 997 + 1004 * 1004);
         Check.same("move across", bench.move(0, 1000, 1000), 8000000);
-        Check.same("where they are now", bench.digest(), mix(2, 1000, 1000, 0, -1,
+        Check.same("where they are now", bench.digest(), Benches.mix(2, 1000, 1000, 0, -1,
                 100, 0, 0, -1, -1, 0, 0, 0, 0, 0, 0));
         int[] noShaft = {-1, 2, MIN, MAX};
         for (int shaft : noShaft) {
@@ -136,7 +98,7 @@ public final class PromiseTest {
     }
 
     private static void addGear() {
-        GearTrains bench = withShafts(1);
+        GearTrains bench = Benches.withShafts(1);
         Check.same("least gear", bench.addGear(0, 8, 1, 0, false), 0);
         Check.same("greatest gear", bench.addGear(0, 200, 10, 5, true), 1);
         Check.refused(bench, "IOB", "gear on -1", () -> bench.addGear(-1, 8, 1, 0, false));
@@ -164,7 +126,7 @@ public final class PromiseTest {
     }
 
     private static void mesh() {
-        GearTrains bench = withShafts(3);
+        GearTrains bench = Benches.withShafts(3);
         bench.addGear(0, 20, 2, 1, false);
         bench.addGear(1, 30, 2, 1, false);
         bench.addGear(1, 30, 3, 1, false);
@@ -189,7 +151,7 @@ public final class PromiseTest {
     }
 
     private static void meshOfRings() {
-        GearTrains bench = withShafts(2);
+        GearTrains bench = Benches.withShafts(2);
         bench.addGear(0, 20, 1, 0, false);
         bench.addGear(1, 20, 1, 0, true);
         bench.addGear(1, 19, 1, 0, true);
@@ -209,7 +171,7 @@ public final class PromiseTest {
     }
 
     private static void fullMeshes() {
-        GearTrains bench = withShafts(2);
+        GearTrains bench = Benches.withShafts(2);
         for (int k = 0; k < 10; k++) {
             bench.addGear(k % 2, 20, 1, 0, false);
         }
@@ -229,7 +191,7 @@ public final class PromiseTest {
     }
 
     private static void unmesh() {
-        GearTrains bench = chain(4);
+        GearTrains bench = Benches.chain(4);
         bench.drive(0, 8);
         Check.same("all told", bench.free(), 0);
         Check.same("two left", bench.unmesh(), 2);
@@ -240,12 +202,12 @@ public final class PromiseTest {
         Check.same("all free but the driver", bench.free(), 3);
         Check.refused(bench, "ISE", "unmesh of none", () -> bench.unmesh());
         Check.same("can be meshed again", bench.mesh(1, 0), 0);
-        Check.same("and tells again", speedOf(bench, 1), "-4/1");
+        Check.same("and tells again", Benches.speedOf(bench, 1), "-4/1");
         Check.refused(new GearTrains(), "ISE", "unmesh when new", () -> new GearTrains().unmesh());
     }
 
     private static void addPlanets() {
-        GearTrains bench = withShafts(4);
+        GearTrains bench = Benches.withShafts(4);
         int[] noShaft = {-1, 4, MIN, MAX};
         for (int n : noShaft) {
             Check.refused(bench, "IOB", "sun " + n, () -> bench.addPlanets(n, 1, 2, 8, 8));
@@ -273,7 +235,7 @@ public final class PromiseTest {
     }
 
     private static void planets() {
-        GearTrains bench = withShafts(3);
+        GearTrains bench = Benches.withShafts(3);
         bench.addPlanets(0, 1, 2, 24, 12);
         int[] due = {1, 2, 3, 4, 4, 6, 6, 8, 9, 9, 9, 12};
         for (int most = 1; most <= 12; most++) {
@@ -295,7 +257,7 @@ public final class PromiseTest {
     }
 
     private static void count() {
-        GearTrains bench = withShafts(5);
+        GearTrains bench = Benches.withShafts(5);
         for (int k = 0; k < 4; k++) {
             bench.addGear(k % 2, 20, 1, 0, false);
         }
@@ -316,17 +278,17 @@ public final class PromiseTest {
     // ---- promises 10 and 11: what drives and holds
 
     private static void drive() {
-        GearTrains bench = withShafts(3);
+        GearTrains bench = Benches.withShafts(3);
         Check.same("no driver before", bench.drive(1, 1000), -1);
-        Check.same("told", speedOf(bench, 1), "1000/1");
+        Check.same("told", Benches.speedOf(bench, 1), "1000/1");
         Check.same("itself before", bench.drive(1, -1000), 1);
-        Check.same("told anew", speedOf(bench, 1), "-1000/1");
+        Check.same("told anew", Benches.speedOf(bench, 1), "-1000/1");
         Check.same("the one before", bench.drive(0, 0), 1);
         Check.same("which is free", bench.isTold(1), false);
-        Check.same("a driver that stands still", speedOf(bench, 0), "0/1");
+        Check.same("a driver that stands still", Benches.speedOf(bench, 0), "0/1");
         bench.hold(2, true);
         Check.same("a held one drives", bench.drive(2, 7), 0);
-        Check.same("and turns", speedOf(bench, 2), "7/1");
+        Check.same("and turns", Benches.speedOf(bench, 2), "7/1");
         Check.same("back", bench.drive(0, 3), 2);
         Check.same("it is held no more", bench.isTold(2), false);
         Check.same("hold says so", bench.hold(2, true), false);
@@ -344,9 +306,9 @@ public final class PromiseTest {
     }
 
     private static void hold() {
-        GearTrains bench = withShafts(3);
+        GearTrains bench = Benches.withShafts(3);
         Check.same("not held before", bench.hold(0, true), false);
-        Check.same("stands still", speedOf(bench, 0), "0/1");
+        Check.same("stands still", Benches.speedOf(bench, 0), "0/1");
         Check.same("held before", bench.hold(0, true), true);
         Check.same("let go", bench.hold(0, false), true);
         Check.same("is free", bench.isTold(0), false);
@@ -361,14 +323,14 @@ public final class PromiseTest {
         }
         bench.drive(1, 5);
         Check.same("the driver before can be held", bench.hold(2, true), false);
-        Check.same("held in the digest", bench.digest(), mix(3, 0, 0, 0, -1, 100, 0, 0, 0, 5, 1,
-                200, 0, 1, 0, 0, 1, 1, 0, 0, 0, 0, 0, 0));
+        Check.same("held in the digest", bench.digest(), Benches.mix(3, 0, 0, 0, -1,
+                100, 0, 0, 0, 5, 1, 200, 0, 1, 0, 0, 1, 1, 0, 0, 0, 0, 0, 0));
     }
 
     // ---- promises 12 to 18: speeds
 
     private static void isTold() {
-        GearTrains bench = chain(3);
+        GearTrains bench = Benches.chain(3);
         Check.same("nothing drives", bench.isTold(0), false);
         bench.drive(1, 0);
         for (int k = 0; k < 3; k++) {
@@ -385,23 +347,23 @@ public final class PromiseTest {
     }
 
     private static void speed() {
-        GearTrains bench = chain(4);
+        GearTrains bench = Benches.chain(4);
         bench.drive(0, 6);
-        Check.same("the driver", speedOf(bench, 0), "6/1");
-        Check.same("turned the other way", speedOf(bench, 1), "-3/1");
-        Check.same("in lowest terms", speedOf(bench, 2), "3/2");
-        Check.same("sign above", speedOf(bench, 3), "-3/4");
+        Check.same("the driver", Benches.speedOf(bench, 0), "6/1");
+        Check.same("turned the other way", Benches.speedOf(bench, 1), "-3/1");
+        Check.same("in lowest terms", Benches.speedOf(bench, 2), "3/2");
+        Check.same("sign above", Benches.speedOf(bench, 3), "-3/4");
         bench.drive(3, 6);
-        Check.same("from the other end", speedOf(bench, 0), "-48/1");
+        Check.same("from the other end", Benches.speedOf(bench, 0), "-48/1");
         bench.drive(0, 0);
-        Check.same("0 is 0/1", speedOf(bench, 3), "0/1");
+        Check.same("0 is 0/1", Benches.speedOf(bench, 3), "0/1");
         int ring = bench.addGear(0, 60, 2, 5, true);
         int inner = bench.addGear(bench.addShaft(0, 0), 24, 2, 5, false);
         bench.mesh(ring, inner);
         bench.drive(0, 7);
-        Check.same("a ring turns the same way", speedOf(bench, 4), "35/2");
+        Check.same("a ring turns the same way", Benches.speedOf(bench, 4), "35/2");
         bench.drive(4, -7);
-        Check.same("and is turned so", speedOf(bench, 0), "-14/5");
+        Check.same("and is turned so", Benches.speedOf(bench, 0), "-14/5");
         bench.unmesh();
         Check.refused(bench, "ISE", "a free one", () -> bench.speed(0, false));
         Check.refused(bench, "ISE", "below a free one", () -> bench.speed(0, true));
@@ -412,72 +374,72 @@ public final class PromiseTest {
     }
 
     private static void speedsByMeshesFirst() {
-        GearTrains bench = withShafts(3);
+        GearTrains bench = Benches.withShafts(3);
         bench.addPlanets(0, 1, 2, 20, 10);
-        pair(bench, 0, 10, 2, 50, 0);
+        Benches.pair(bench, 0, 10, 2, 50, 0);
         bench.drive(0, 30);
         bench.hold(1, true);
-        Check.same("the mesh tells, not the set", speedOf(bench, 2), "-6/1");
+        Check.same("the mesh tells, not the set", Benches.speedOf(bench, 2), "-6/1");
         Check.same("the set is broken", bench.broken(true), 1);
         bench.unmesh();
-        Check.same("then the set tells", speedOf(bench, 2), "10/1");
+        Check.same("then the set tells", Benches.speedOf(bench, 2), "10/1");
         Check.same("and holds", bench.broken(true), 0);
     }
 
     private static void speedsBySmallestNumber() {
-        GearTrains bench = withShafts(4);
+        GearTrains bench = Benches.withShafts(4);
         // Mesh 0 waits for shaft 1; meshes 1 and 2 could both tell shaft 2 at first.
-        pair(bench, 1, 10, 3, 30, 0);
-        pair(bench, 0, 10, 2, 20, 1);
-        pair(bench, 0, 10, 2, 40, 2);
-        pair(bench, 0, 10, 1, 10, 3);
-        pair(bench, 2, 10, 3, 10, 4);
+        Benches.pair(bench, 1, 10, 3, 30, 0);
+        Benches.pair(bench, 0, 10, 2, 20, 1);
+        Benches.pair(bench, 0, 10, 2, 40, 2);
+        Benches.pair(bench, 0, 10, 1, 10, 3);
+        Benches.pair(bench, 2, 10, 3, 10, 4);
         bench.drive(0, 12);
-        Check.same("mesh 1 comes before mesh 2", speedOf(bench, 2), "-6/1");
-        Check.same("mesh 3 tells", speedOf(bench, 1), "-12/1");
-        Check.same("then 0, before 4", speedOf(bench, 3), "4/1");
+        Check.same("mesh 1 comes before mesh 2", Benches.speedOf(bench, 2), "-6/1");
+        Check.same("mesh 3 tells", Benches.speedOf(bench, 1), "-12/1");
+        Check.same("then 0, before 4", Benches.speedOf(bench, 3), "4/1");
         Check.same("2 and 4 are broken", bench.broken(false), 4 + 16);
     }
 
     private static void speedsBySets() {
-        GearTrains bench = withShafts(6);
+        GearTrains bench = Benches.withShafts(6);
         bench.addPlanets(0, 1, 2, 20, 20);
         bench.drive(0, 4);
         bench.hold(1, true);
-        Check.same("carrier", speedOf(bench, 2), "1/1");
+        Check.same("carrier", Benches.speedOf(bench, 2), "1/1");
         bench.hold(1, false);
         Check.same("one is not enough", bench.isTold(2), false);
         bench.hold(2, true);
-        Check.same("ring", speedOf(bench, 1), "-4/3");
+        Check.same("ring", Benches.speedOf(bench, 1), "-4/3");
         bench.drive(1, 5);
-        Check.same("sun", speedOf(bench, 0), "-15/1");
+        Check.same("sun", Benches.speedOf(bench, 0), "-15/1");
         bench.addPlanets(0, 1, 3, 8, 8);
-        Check.same("a set after a set", speedOf(bench, 3), "0/1");
+        Check.same("a set after a set", Benches.speedOf(bench, 3), "0/1");
         bench.addPlanets(4, 3, 2, 10, 10);
-        Check.same("all stand still", speedOf(bench, 4), "0/1");
+        Check.same("all stand still", Benches.speedOf(bench, 4), "0/1");
         bench.addPlanets(0, 1, 4, 10, 20);
         Check.same("set 3 comes too late", bench.broken(true), 8);
         Check.same("one is free", bench.free(), 1);
 
-        GearTrains order = withShafts(4);
+        GearTrains order = Benches.withShafts(4);
         order.drive(0, 12);
         order.hold(1, true);
         order.addPlanets(0, 1, 2, 20, 20);
         order.addPlanets(0, 1, 2, 20, 10);
-        pair(order, 2, 10, 3, 10, 0);
+        Benches.pair(order, 2, 10, 3, 10, 0);
         order.addPlanets(2, 3, 0, 8, 8);
-        Check.same("set 0 comes before set 1", speedOf(order, 2), "3/1");
-        Check.same("then the mesh before set 2", speedOf(order, 3), "-3/1");
+        Check.same("set 0 comes before set 1", Benches.speedOf(order, 2), "3/1");
+        Check.same("then the mesh before set 2", Benches.speedOf(order, 3), "-3/1");
         Check.same("1 and 2 are broken", order.broken(true), 6);
     }
 
     private static void speedsLeftAside() {
-        GearTrains bench = withShafts(4);
-        pair(bench, 0, 199, 1, 197, 0);
-        pair(bench, 1, 193, 2, 191, 1);
-        pair(bench, 1, 8, 2, 16, 2);
+        GearTrains bench = Benches.withShafts(4);
+        Benches.pair(bench, 0, 199, 1, 197, 0);
+        Benches.pair(bench, 1, 193, 2, 191, 1);
+        Benches.pair(bench, 1, 8, 2, 16, 2);
         bench.drive(0, 997);
-        Check.same("mesh 1 is left aside, 2 tells", speedOf(bench, 2), "198403/394");
+        Check.same("mesh 1 is left aside, 2 tells", Benches.speedOf(bench, 2), "198403/394");
         Check.same("and 1 is broken", bench.broken(false), 2);
         bench.unmesh();
         Check.same("left aside: free", bench.isTold(2), false);
@@ -486,23 +448,23 @@ public final class PromiseTest {
         bench.hold(3, true);
         Check.same("a set left aside", bench.isTold(2), false);
         bench.addPlanets(3, 1, 2, 8, 8);
-        Check.same("the next set tells", speedOf(bench, 2), "-595209/788");
+        Check.same("the next set tells", Benches.speedOf(bench, 2), "-595209/788");
         Check.same("the first one is broken", bench.broken(true), 1);
         Check.same("mesh 1 too", bench.broken(false), 2);
         bench.drive(0, 197);
-        Check.same("not aside any more", speedOf(bench, 2), "38407/191");
+        Check.same("not aside any more", Benches.speedOf(bench, 2), "38407/191");
         firstOnesLeftAside();
     }
 
     private static void firstOnesLeftAside() {
-        GearTrains bench = withShafts(4);
-        pair(bench, 1, 191, 0, 193, 0);
+        GearTrains bench = Benches.withShafts(4);
+        Benches.pair(bench, 1, 191, 0, 193, 0);
         bench.drive(2, 997);
-        pair(bench, 2, 199, 0, 197, 1);
+        Benches.pair(bench, 2, 199, 0, 197, 1);
         Check.same("mesh 0 is left aside, the first gear's shaft free", bench.isTold(1), false);
         Check.same("so it is not broken", bench.broken(false), 0);
         bench.drive(2, 197);
-        Check.same("mesh 0 is not aside any more", speedOf(bench, 1), "38407/191");
+        Check.same("mesh 0 is not aside any more", Benches.speedOf(bench, 1), "38407/191");
         bench.drive(2, 997);
         bench.addPlanets(1, 3, 0, 97, 89);
         bench.hold(3, true);
@@ -511,68 +473,68 @@ public final class PromiseTest {
         bench.unmesh();
         bench.unmesh();
         bench.drive(0, 97);
-        Check.same("set 0 is not aside any more", speedOf(bench, 1), "372/1");
+        Check.same("set 0 is not aside any more", Benches.speedOf(bench, 1), "372/1");
     }
 
     private static void speedAtTheLimit() {
-        GearTrains bench = withShafts(4);
-        pair(bench, 0, 125, 1, 8, 0);
-        pair(bench, 1, 128, 2, 8, 1);
-        pair(bench, 2, 100, 3, 25, 2);
+        GearTrains bench = Benches.withShafts(4);
+        Benches.pair(bench, 0, 125, 1, 8, 0);
+        Benches.pair(bench, 1, 128, 2, 8, 1);
+        Benches.pair(bench, 2, 100, 3, 25, 2);
         bench.drive(0, 1000);
-        Check.same("250000", speedOf(bench, 2), "250000/1");
-        Check.same("1000000 is told", speedOf(bench, 3), "-1000000/1");
+        Check.same("250000", Benches.speedOf(bench, 2), "250000/1");
+        Check.same("1000000 is told", Benches.speedOf(bench, 3), "-1000000/1");
         bench.drive(0, -1000);
-        Check.same("without its sign", speedOf(bench, 3), "1000000/1");
+        Check.same("without its sign", Benches.speedOf(bench, 3), "1000000/1");
         bench.drive(3, 1);
-        Check.same("4000 below", speedOf(bench, 0), "-1/1000");
+        Check.same("4000 below", Benches.speedOf(bench, 0), "-1/1000");
         bench.drive(0, 993);
-        Check.same("993000", speedOf(bench, 3), "-993000/1");
+        Check.same("993000", Benches.speedOf(bench, 3), "-993000/1");
 
-        GearTrains over = withShafts(4);
-        pair(over, 0, 125, 1, 8, 0);
-        pair(over, 1, 128, 2, 8, 1);
-        pair(over, 2, 97, 3, 24, 2);
+        GearTrains over = Benches.withShafts(4);
+        Benches.pair(over, 0, 125, 1, 8, 0);
+        Benches.pair(over, 1, 128, 2, 8, 1);
+        Benches.pair(over, 2, 97, 3, 24, 2);
         over.drive(0, 990);
-        Check.same("247500", speedOf(over, 2), "247500/1");
+        Check.same("247500", Benches.speedOf(over, 2), "247500/1");
         Check.same("1000312.5 is too great", over.isTold(3), false);
         over.drive(0, -990);
         Check.same("below 0 too", over.isTold(3), false);
         over.drive(0, 984);
-        Check.same("994250", speedOf(over, 3), "-994250/1");
+        Check.same("994250", Benches.speedOf(over, 3), "-994250/1");
         overTheLimitByOne();
         underTheLimit();
     }
 
     private static void overTheLimitByOne() {
-        GearTrains bench = withShafts(5);
-        pair(bench, 0, 178, 1, 8, 0);
-        pair(bench, 1, 166, 2, 8, 1);
-        pair(bench, 2, 40, 3, 53, 2);
+        GearTrains bench = Benches.withShafts(5);
+        Benches.pair(bench, 0, 178, 1, 8, 0);
+        Benches.pair(bench, 1, 166, 2, 8, 1);
+        Benches.pair(bench, 2, 40, 3, 53, 2);
         bench.addPlanets(4, 0, 3, 8, 100);
         bench.drive(0, -106);
-        Check.same("the carrier", speedOf(bench, 3), "36935/1");
+        Check.same("the carrier", Benches.speedOf(bench, 3), "36935/1");
         Check.same("27 * 36935 + 26 * 106 = 1000001 is too great", bench.isTold(4), false);
         bench.drive(0, 106);
         Check.same("below 0 too", bench.isTold(4), false);
         bench.drive(0, 0);
-        Check.same("0 is not", speedOf(bench, 4), "0/1");
+        Check.same("0 is not", Benches.speedOf(bench, 4), "0/1");
     }
 
     private static void underTheLimit() {
-        GearTrains bench = withShafts(5);
-        pair(bench, 0, 8, 1, 125, 0);
-        pair(bench, 1, 8, 2, 128, 1);
-        pair(bench, 2, 9, 3, 125, 2);
-        pair(bench, 3, 9, 4, 32, 3);
+        GearTrains bench = Benches.withShafts(5);
+        Benches.pair(bench, 0, 8, 1, 125, 0);
+        Benches.pair(bench, 1, 8, 2, 128, 1);
+        Benches.pair(bench, 2, 9, 3, 125, 2);
+        Benches.pair(bench, 3, 9, 4, 32, 3);
         bench.drive(0, 1);
-        Check.same("250 below", speedOf(bench, 2), "1/250");
-        Check.same("31250 below", speedOf(bench, 3), "-9/31250");
-        Check.same("1000000 below is told", speedOf(bench, 4), "81/1000000");
+        Check.same("250 below", Benches.speedOf(bench, 2), "1/250");
+        Check.same("31250 below", Benches.speedOf(bench, 3), "-9/31250");
+        Check.same("1000000 below is told", Benches.speedOf(bench, 4), "81/1000000");
         bench.unmesh();
         int gear = bench.addGear(4, 33, 1, 3, false);
         bench.mesh(6, gear);
-        Check.same("343750 below", speedOf(bench, 4), "27/343750");
+        Check.same("343750 below", Benches.speedOf(bench, 4), "27/343750");
         bench.unmesh();
         gear = bench.addGear(4, 100, 1, 3, false);
         bench.mesh(6, gear);
@@ -580,7 +542,7 @@ public final class PromiseTest {
     }
 
     private static void stage() {
-        GearTrains bench = chain(4);
+        GearTrains bench = Benches.chain(4);
         Check.same("not told", bench.stage(0), -1);
         bench.drive(1, 5);
         Check.same("the driver", bench.stage(1), 0);
@@ -597,7 +559,7 @@ public final class PromiseTest {
     }
 
     private static void stageBySets() {
-        GearTrains bench = chain(3);
+        GearTrains bench = Benches.chain(3);
         bench.addShaft(0, 0);
         bench.addShaft(0, 0);
         bench.addPlanets(0, 2, 3, 20, 20);
@@ -614,7 +576,7 @@ public final class PromiseTest {
     }
 
     private static void ratio() {
-        GearTrains bench = chain(4);
+        GearTrains bench = Benches.chain(4);
         Check.refused(bench, "ISE", "ratio of free ones", () -> bench.ratio(0, 1));
         bench.drive(0, 6);
         Check.same("ratio", bench.ratio(0, 1), -2.0);
@@ -634,19 +596,19 @@ public final class PromiseTest {
             Check.refused(bench, "IOB", "ratio b " + shaft, () -> bench.ratio(0, shaft));
             Check.refused(bench, "IOB", "ratio both " + shaft, () -> bench.ratio(shaft, 3));
         }
-        GearTrains thirds = withShafts(3);
-        pair(thirds, 0, 10, 1, 30, 0);
-        pair(thirds, 0, 10, 2, 49, 1);
+        GearTrains thirds = Benches.withShafts(3);
+        Benches.pair(thirds, 0, 10, 1, 30, 0);
+        Benches.pair(thirds, 0, 10, 2, 49, 1);
         thirds.drive(0, 1);
         Check.same("both as doubles, then the quotient", thirds.ratio(1, 2),
                 (-1.0 / 3.0) / (-10.0 / 49.0));
     }
 
     private static void brokenMeshes() {
-        GearTrains bench = withShafts(3);
-        pair(bench, 0, 10, 1, 20, 0);
-        pair(bench, 1, 10, 2, 20, 1);
-        pair(bench, 2, 20, 0, 10, 2);
+        GearTrains bench = Benches.withShafts(3);
+        Benches.pair(bench, 0, 10, 1, 20, 0);
+        Benches.pair(bench, 1, 10, 2, 20, 1);
+        Benches.pair(bench, 2, 20, 0, 10, 2);
         Check.same("nothing told", bench.broken(false), 0);
         bench.drive(0, 8);
         Check.same("the circle does not close", bench.broken(false), 4);
@@ -662,7 +624,7 @@ public final class PromiseTest {
     }
 
     private static void brokenSets() {
-        GearTrains bench = withShafts(4);
+        GearTrains bench = Benches.withShafts(4);
         bench.addPlanets(0, 1, 2, 20, 20);
         bench.addPlanets(0, 1, 2, 20, 10);
         bench.addPlanets(0, 1, 3, 20, 10);
@@ -679,19 +641,19 @@ public final class PromiseTest {
         bench.drive(0, 0);
         Check.same("all stand", bench.broken(true), 0);
         // Speeds with the greatest denominators: their product is far beyond a long.
-        GearTrains fine = withShafts(6);
-        pair(fine, 0, 8, 1, 199, 0);
-        pair(fine, 1, 8, 3, 197, 1);
-        pair(fine, 0, 8, 2, 193, 2);
-        pair(fine, 2, 8, 4, 191, 3);
-        pair(fine, 0, 8, 5, 181, 4);
+        GearTrains fine = Benches.withShafts(6);
+        Benches.pair(fine, 0, 8, 1, 199, 0);
+        Benches.pair(fine, 1, 8, 3, 197, 1);
+        Benches.pair(fine, 0, 8, 2, 193, 2);
+        Benches.pair(fine, 2, 8, 4, 191, 3);
+        Benches.pair(fine, 0, 8, 5, 181, 4);
         fine.drive(0, 1);
         fine.addPlanets(3, 4, 5, 97, 89);
         Check.same("a fine difference", fine.broken(true), 1);
     }
 
     private static void free() {
-        GearTrains bench = chain(4);
+        GearTrains bench = Benches.chain(4);
         Check.same("all", bench.free(), 4);
         bench.hold(3, true);
         Check.same("all stand by the held one", bench.free(), 0);
@@ -704,7 +666,7 @@ public final class PromiseTest {
     }
 
     private static void torque() {
-        GearTrains bench = chain(4);
+        GearTrains bench = Benches.chain(4);
         Check.refused(bench, "ISE", "no driver", () -> bench.torque(0, 5));
         bench.hold(3, true);
         Check.refused(bench, "ISE", "no driver, but told", () -> bench.torque(3, 5));
@@ -739,7 +701,7 @@ public final class PromiseTest {
     // ---- promises 19 to 23: the plane
 
     private static void distance() {
-        GearTrains bench = withShafts(2);
+        GearTrains bench = Benches.withShafts(2);
         bench.addGear(0, 200, 10, 0, false);
         bench.addGear(1, 200, 10, 0, false);
         bench.addGear(1, 8, 10, 0, false);
@@ -767,10 +729,10 @@ public final class PromiseTest {
         GearTrains bench = new GearTrains();
         bench.addShaft(-10, 20);
         bench.addShaft(20, 60);
-        pair(bench, 0, 20, 1, 30, 0);
+        Benches.pair(bench, 0, 20, 1, 30, 0);
         Check.same("30, 40: 50", bench.misfits(), 0);
-        pair(bench, 0, 20, 1, 31, 1);
-        pair(bench, 0, 19, 1, 30, 2);
+        Benches.pair(bench, 0, 20, 1, 31, 1);
+        Benches.pair(bench, 0, 19, 1, 30, 2);
         Check.same("too near and too far", bench.misfits(), 2 + 4);
         bench.mesh(bench.addGear(0, 20, 2, 3, false), bench.addGear(1, 45, 2, 3, true));
         Check.same("a ring fits", bench.misfits(), 2 + 4);
@@ -863,17 +825,17 @@ public final class PromiseTest {
     }
 
     private static void digest() {
-        GearTrains bench = withShafts(3);
-        pair(bench, 0, 10, 1, 20, 0);
-        pair(bench, 0, 10, 1, 30, 1);
+        GearTrains bench = Benches.withShafts(3);
+        Benches.pair(bench, 0, 10, 1, 20, 0);
+        Benches.pair(bench, 0, 10, 1, 30, 1);
         bench.addShaft(-7, 9);
         bench.addPlanets(0, 1, 2, 20, 20);
         bench.drive(0, 5);
         bench.hold(2, true);
-        Check.same("digest", bench.digest(), mix(4, 0, 0, 0, 0, 5, 1, 100, 0, 0, 1, -5, 2,
+        Check.same("digest", bench.digest(), Benches.mix(4, 0, 0, 0, 0, 5, 1, 100, 0, 0, 1, -5, 2,
                 200, 0, 1, 0, 0, 1, -7, 9, 0, -1, 0, 4, 2, 1, 2, 1, 3));
         bench.hold(2, false);
-        Check.same("digest, by a set", bench.digest(), mix(4, 0, 0, 0, 0, 5, 1,
+        Check.same("digest, by a set", bench.digest(), Benches.mix(4, 0, 0, 0, 0, 5, 1,
                 100, 0, 0, 1, -5, 2, 200, 0, 0, 2, -5, 8, -7, 9, 0, -1, 0, 4, 2, 1, 2, 0, 3));
         Check.same("digest again", bench.digest(), bench.digest());
     }
