@@ -34,6 +34,7 @@ public final class BuildEdgesTest {
         meshesAtMost();
         meshOrder();
         unmeshLatest();
+        unmeshTells();
         unmeshNone();
         setShafts();
         setDifferentShafts();
@@ -476,6 +477,18 @@ public final class BuildEdgesTest {
             Check.same("the latest one went", Check.outcome(() -> bench.distance(last)), "IOB");
             String due = left == 0 ? "IOB" : "41";
             Check.same("the first one stays", Check.outcome(() -> bench.distance(0)), due);
+        }
+    }
+
+    private static void unmeshTells() {
+        Check.says("Promise 6: what the latest mesh told is free then");
+        GearTrains bench = Benches.row();
+        bench.drive(0, 5);
+        for (int left = 8; left >= 0; left--) {
+            bench.unmesh();
+            Check.same("free with " + left, bench.free(), 9 - left);
+            Check.same("the shaft of it", bench.isTold(left + 1), false);
+            Check.same("the one before", bench.stage(left), left);
         }
     }
 

@@ -43,6 +43,11 @@ public final class TellingEdgesTest {
         Check.same("by a set, below 0", Benches.speedOf(bench, 2), "-3/2");
         bench.drive(0, 8);
         Check.same("by a set, whole", Benches.speedOf(bench, 2), "2/1");
+        bench = Benches.train(1, 8, 9, 8, 11);
+        bench.addPlanets(1, 2, 9, 8, 8);
+        Check.same("by a set, of -8 / 9 and 64 / 99", Benches.speedOf(bench, 9), "26/99");
+        bench.addPlanets(7, 1, 2, 8, 8);
+        Check.same("and its sun", Benches.speedOf(bench, 7), "520/99");
     }
 
     private static void speedZero() {
@@ -287,6 +292,18 @@ public final class TellingEdgesTest {
         Check.same("so does the set", Benches.toldIn(bench, 9), "4717/4");
         bench.drive(0, 212);
         Check.same("left aside again", bench.free(), 7);
+        // Mesh 0 and set 0 are the ones that are left aside here.
+        bench = Benches.withShafts(10);
+        Benches.pair(bench, 1, 89, 2, 9, 0);
+        Benches.pair(bench, 0, 53, 1, 9, 1);
+        bench.hold(8, true);
+        bench.addPlanets(9, 8, 1, 97, 89);
+        bench.drive(0, 997);
+        Check.same("mesh 0 is left aside", Benches.toldIn(bench, 2), "free");
+        Check.same("set 0 is left aside", Benches.toldIn(bench, 9), "free");
+        bench.drive(0, 9);
+        Check.same("mesh 0 tells", Benches.toldIn(bench, 2), "4717/9");
+        Check.same("set 0 tells", Benches.toldIn(bench, 9), "-19716/97");
     }
 
     // ---- the order of the telling
