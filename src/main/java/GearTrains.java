@@ -551,7 +551,7 @@ public final class GearTrains {
             this.b = b;
             // v * a + w * b = 0, but v * a - w * b = 0 with a ring.
             int weightOfB = a.isRing || b.isRing ? -b.teeth : b.teeth;
-            tie = new Tie(new Shaft[] {a.shaft, b.shaft}, new int[] {a.teeth, weightOfB});
+            tie = new Tie(new Term[] {new Term(a.shaft, a.teeth), new Term(b.shaft, weightOfB)});
         }
 
         boolean isOf(Gear one, Gear other) {
@@ -577,7 +577,9 @@ public final class GearTrains {
             int r = s + 2 * p;
             allTeeth = s + r;
             // (S - C) * s + (R - C) * r = 0 is S * s + R * r - C * (s + r) = 0.
-            tie = new Tie(new Shaft[] {sun, ring, carrier}, new int[] {s, r, -allTeeth});
+            tie = new Tie(new Term[] {
+                new Term(sun, s), new Term(ring, r), new Term(carrier, -allTeeth)
+            });
         }
 
         int mostPlanets(int limit) {
@@ -590,84 +592,95 @@ public final class GearTrains {
         }
     }
 
-    /**
-     * An equation: the speeds of two or three shafts, each times its weight, add up to 0. There are
-     * as many weights as shafts, and none is 0.
-     */
+    /** A shaft in an equation, and what its speed is multiplied by there, which is never 0. */
+    private static final class Term {
+        final Shaft shaft;
+        final int weight;
+
+        Term(Shaft shaft, int weight) {
+            this.shaft = shaft;
+            this.weight = weight;
+        }
+    }
+
+    /** An equation: the speeds of two or three shafts, each times its weight, add up to 0. */
     private static final class Tie {
-        final Shaft[] shafts;
-        final int[] weights;
+        final Term[] terms;
         final Fraction asked;
         boolean isAside;
 
-        Tie(Shaft[] shafts, int[] weights) {
-            this.shafts = shafts;
-            this.weights = weights;
+        Tie(Term[] terms) {
+            this.terms = terms;
             asked = new Fraction();
             isAside = false;
         }
 
         /** Whether this could tell a shaft; if what it would tell is too great, it steps aside. */
         boolean tellsOrStepsAside() {
-            int unknown = isAside ? -1 : onlyUnknown();
-            if (unknown < 0) {
+            Term unknown = isAside ? null : onlyUnknown();
+            if (unknown == null) {
                 return false;
             }
             ask(unknown);
             if (asked.isTooGreat()) {
                 isAside = true;
             } else {
-                shafts[unknown].learn(asked, 1 + greatestStage());
+                unknown.shaft.learn(asked, 1 + greatestStage());
             }
             return true;
         }
 
-        // The last speed is solved for and compared: all three denominators multiplied with each
+        // One speed is solved for and compared: all three denominators multiplied with each
         // other could be greater than a long.
         boolean isBroken() {
-            for (int k = 0; k < shafts.length; k++) {
-                if (!shafts[k].hasSpeed()) {
+            Term solved = null;
+            for (Term term : terms) {
+                if (!term.shaft.hasSpeed()) {
                     return false;
                 }
+                solved = term;
             }
-            ask(0);
-            return !asked.isSameAs(shafts[0].speed);
+            if (solved == null) {
+                return false;
+            }
+            ask(solved);
+            return !asked.isSameAs(solved.shaft.speed);
         }
 
-        /** The place of the only shaft that is not told, -1 if there are none or several. */
-        private int onlyUnknown() {
-            int place = -1;
-            for (int k = 0; k < shafts.length; k++) {
-                if (!shafts[k].hasSpeed()) {
-                    if (place >= 0) {
-                        return -1;
+        /** The only term whose shaft is not told, null if there are none or several. */
+        private Term onlyUnknown() {
+            Term unknown = null;
+            for (Term term : terms) {
+                if (!term.shaft.hasSpeed()) {
+                    if (unknown != null) {
+                        return null;
                     }
-                    place = k;
+                    unknown = term;
                 }
             }
-            return place;
+            return unknown;
         }
 
         private int greatestStage() {
             int greatest = NOT_TOLD;
-            for (int k = 0; k < shafts.length; k++) {
-                greatest = Math.max(greatest, shafts[k].stage);
+            for (Term term : terms) {
+                greatest = Math.max(greatest, term.shaft.stage);
             }
             return greatest;
         }
 
-        /** Works out what the other shafts ask of the one at this place. */
-        private void ask(int place) {
+        /** Works out what the other shafts ask of the one in this term. */
+        private void ask(Term solved) {
             long over = 0;
             long under = 1;
-            for (int k = 0; k < shafts.length; k++) {
-                if (k != place) {
-                    Fraction known = shafts[k].speed;
-                    over = over * known.denominator + weights[k] * known.numerator * under;
+            for (Term term : terms) {
+                if (term != solved) {
+                    Fraction known = term.shaft.speed;
+                    over = over * known.denominator + term.weight * known.numerator * under;
                     under *= known.denominator;
                 }
             }
-            asked.become(-over, weights[place] * under);
+            asked.become(-over, solved.weight * under);
         }
     }
 }
